@@ -16,6 +16,7 @@ public final class ModelTest {
     private final List<String> calls = new ArrayList<>();
     private final boolean wild;
     private final int longest;
+    private final boolean late;
     private boolean failed;
 
     private static final Method[] METHODS = methods();
@@ -23,6 +24,7 @@ public final class ModelTest {
     private ModelTest(long seed) {
         random = new Random(seed * 7919 + 17);
         wild = seed % 5 == 4;
+        late = seed % 7 == 6;
         longest = new int[] {3, 8, 30, 99}[(int) (seed % 4)];
     }
 
@@ -148,7 +150,7 @@ public final class ModelTest {
     private String one(int depth, String names) {
         switch (random.nextInt(depth > 0 ? 8 : 4)) {
             case 0: return "" + upTo(5);
-            case 1: return random.nextInt(8) == 0 ? "" + upTo(10010) : "" + upTo(30);
+            case 1: return random.nextInt(8) == 0 ? "" + (9900 + upTo(110)) : "" + upTo(30);
             case 2: case 3: return word(names.split(" "));
             case 4: return "(" + sum(depth - 1, names) + ")";
             case 5: return "-" + one(depth - 1, names);
@@ -175,6 +177,9 @@ public final class ModelTest {
     private String law(String law) {
         String names = "who ends ruled" + (law.equals("cold") ? " gap" : law.equals("haste") ? " into"
             : " turns cut waits spread stop length");
+        if (random.nextInt(12) == 0) {
+            names = "who turns cut waits stop length gap into";
+        }
         return law + " " + sum(upTo(3), names) + ";";
     }
 
@@ -247,7 +252,7 @@ public final class ModelTest {
             case 4: case 5: call("speak", anEnd(), number(1, longest)); break;
             case 6: call("hush", anEnd()); break;
             case 7: case 8: call("yes", anEnd()); break;
-            case 9: case 10: case 11: case 12: call("go", number(1, wild ? 300 : 3 + longest)); break;
+            case 9: case 10: case 11: case 12: call("go", late ? 300 - upTo(3) : number(1, wild ? 300 : 3 + longest)); break;
             case 13: {
                 int n = 1 + (random.nextInt(4) == 0 ? upTo(20) : upTo(2));
                 for (int i = 0; i < n; i++) {
