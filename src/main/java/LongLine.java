@@ -167,11 +167,8 @@ public final class LongLine {
     }
 
     public int end(int n) {
-        if (n < 0) {
+        if (!within(n, 0, reader.length)) {
             return refuse(NOT_TOLD, NONE);
-        }
-        if (n > reader.length) {
-            return refuse(AS_THINGS_STAND, NONE);
         }
         reader.length = n;
         return n;
@@ -1377,17 +1374,17 @@ public final class LongLine {
         private void splitTape() {
             tokens = 0;
             int from = 0;
-            while (from < length) {
+            for (int i = 0; i < MOST_BYTES && from < length; i++) {
                 int sign = tape[from];
-                int to = from + 1;
                 if (isDigit(sign)) {
-                    to = splitNumber(from);
+                    from = splitNumber(from);
                 } else if (isLetter(sign)) {
-                    to = splitWord(from);
-                } else if (sign != ' ' && sign != 10) {
-                    to = splitSign(from);
+                    from = splitWord(from);
+                } else if (sign == ' ' || sign == 10) {
+                    from++;
+                } else {
+                    from = splitSign(from);
                 }
-                from = to;
             }
             addToken(AT_END, 0, length);
         }
@@ -1400,7 +1397,7 @@ public final class LongLine {
                 to++;
             }
             addToken(NUMBER, number, from);
-            return Math.max(to, from + 1);
+            return to;
         }
 
         private int splitWord(int from) {
@@ -1409,7 +1406,7 @@ public final class LongLine {
                 to++;
             }
             addToken(WORD, numberOfWord(from, to), from);
-            return Math.max(to, from + 1);
+            return to;
         }
 
         /** WORD_COUNT, if it is none of them. */

@@ -381,7 +381,7 @@ public final class ModelTest {
         PlainModel model = new PlainModel();
         int[] maxDelay = {0, 2, 10, 60}, maxLength = {1, 4, 20, 99}, maxStops = {1, 3, 12, 99};
         for (int i = 0; i < 250; i++) {
-            int wait = random.nextBoolean() ? 24 : 99;
+            int wait = new int[] {2, 7, 24, 99}[random.nextInt(4)];
             int[] a = {random.nextInt(wait + 1), random.nextInt(wait + 1),
                 random.nextInt(maxDelay[random.nextInt(4)] + 1), random.nextInt(maxDelay[random.nextInt(4)] + 1),
                 1 + random.nextInt(maxLength[random.nextInt(4)]), random.nextInt(maxStops[random.nextInt(4)] + 1)};
@@ -405,6 +405,31 @@ public final class ModelTest {
         return true;
     }
 
+    private static boolean ways(long seed) {
+        Random random = new Random(seed);
+        LongLine line = new LongLine();
+        PlainModel model = new PlainModel();
+        int most = random.nextBoolean() ? 6 : 30;
+        for (int e = 0; e < 4; e++) {
+            int stops = random.nextInt(most), length = 1 + random.nextInt(most);
+            line.tellEnd(0, 0, stops, length);
+            model.tellEnd(0, 0, stops, length);
+        }
+        for (int i = 0; i < 400; i++) {
+            int one = random.nextInt(4), other = random.nextInt(4), later = random.nextInt(most);
+            if (random.nextInt(3) == 0) {
+                int delay = random.nextInt(most);
+                line.delay(one, other, delay);
+                model.delay(one, other, delay);
+            }
+            if (line.way(one, other, later) != model.way(one, other, later)) {
+                System.out.println("way of seed " + seed + " is not as the model's");
+                return false;
+            }
+        }
+        return true;
+    }
+
     public static void main(String[] args) {
         long from = args.length > 0 ? Long.parseLong(args[0]) : 0;
         long count = args.length > 1 ? Long.parseLong(args[1]) : 120;
@@ -415,7 +440,7 @@ public final class ModelTest {
                 wrong++;
                 System.out.println("seed " + seed + ": " + (args.length > 2 ? test.calls : ""));
             }
-            if (seed % 4 == 0 && !pairs(seed)) {
+            if (seed % 4 == 0 && !(pairs(seed) && ways(seed))) {
                 wrong++;
             }
         }

@@ -414,11 +414,8 @@ final class PlainModel {
     }
 
     int end(int n) {
-        if (n < 0) {
+        if (!in(n, 0, tape.length)) {
             return no(0, NONE);
-        }
-        if (n > tape.length) {
-            return no(2, NONE);
         }
         tape = Arrays.copyOf(tape, n);
         return n;

@@ -203,6 +203,16 @@ public final class PromiseTest {
         x.go(2);
         due("5: END 1 ENDED", x.turn(1, 3), 10);
         due("5: HEARD nobody since its TURN", x.of(1, 6), 9999);
+        // HEARD in the very TENTH in which its TURN ENDED
+        LongLine w = new LongLine();
+        w.tellEnd(99, 0, 0, 1);
+        w.tellEnd(3, 0, 0, 1);
+        w.rule(2);
+        w.speak(1, 2);
+        w.go(1);
+        w.speak(0, 1);
+        w.go(3);
+        due("5: ENDED in 3, HEARD in 3", w.of(1, 6), 3);
         // a TURN of which no TENTH was spoken is no latest one
         LongLine y = new LongLine();
         y.tellEnd(99, 0, 0, 1);
@@ -230,6 +240,16 @@ public final class PromiseTest {
         due("5: it BEGAN at once", x.turn(1, 1), 3);
         due("5: PATIENCE of the next one", x.of(0, 6), 0);
         due("5: PATIENCE of another one", x.of(1, 6), 90);
+        LongLine y = new LongLine();
+        for (int e = 0; e < 3; e++) {
+            y.tellEnd(30, 0, 0, 2);
+        }
+        y.rule(3);
+        y.speak(0, 1);
+        y.go(3);
+        due("5: the next by number", y.turn(1, 0), 1);
+        due("5: it BEGAN at once", y.turn(1, 1), 3);
+        due("5: not the one behind it", y.of(2, 6), 90);
     }
 
     private static void drawsByEachRule() {
@@ -463,7 +483,7 @@ public final class PromiseTest {
         due("11: all", x.end(20), 20);
         due("11: some", x.end(7), 7);
         due("11: bytes", x.about(9), 7);
-        dueRow("11: refused", refusals(x), 1, 0, 2);
+        dueRow("11: refused", refusals(x), 3, 0, 0);
     }
 
     private static void text() {
@@ -544,7 +564,15 @@ public final class PromiseTest {
             {"wait not 1<2;", 1, 5}, {"wait 10000;", 2, 5}, {"wait 1 10000;", 1, 7}, {"wait 09999;", 0, NONE},
             {"wait 99999999999999999999;", 2, 5}, {"wait gap;", 5, 5}, {"wait into;", 5, 5}, {"long gap;", 5, 5},
             {"stops into;", 5, 6}, {"cold into;", 5, 5}, {"cold stop;", 5, 5}, {"haste gap;", 5, 6},
-            {"haste cut;", 5, 6}, {"cold who+ends+ruled+gap;", 0, NONE}, {"haste who+ends+ruled+into;", 0, NONE},
+            {"haste cut;", 5, 6},
+            {"cold turns;", 5, 5}, {"cold cut;", 5, 5}, {"cold waits;", 5, 5}, {"cold spread;", 5, 5}, {"cold length;", 5, 5},
+            {"haste turns;", 5, 6}, {"haste waits;", 5, 6}, {"haste spread;", 5, 6}, {"haste stop;", 5, 6},
+            {"haste length;", 5, 6}, {"long into;", 5, 5}, {"stops gap;", 5, 6}, {"waita 1;", 1, 0}, {"waitz 1;", 1, 0},
+            {"waitA 1;", 1, 0}, {"waitZ 1;", 1, 0}, {"wait0;", 0, NONE}, {"wait9;", 0, NONE}, {"wait/1;", 1, 4},
+            {"wait:1;", 1, 4}, {"wait@;", 1, 4}, {"wait[;", 1, 4}, {"wait`;", 1, 4}, {"wait{;", 1, 4},
+            {"wait if 1;2 then 1 else 2 end;", 1, 9}, {"wait if 1)2 then 1 else 2 end;", 1, 9},
+            {"wait if 1 who 2 then 1 else 2 end;", 1, 10}, {"wait 1 <", 1, 7}, {"wait 1 >= 2;", 1, 7}, {"=", 1, 0},
+            {"wait if 1<", 1, 10}, {"wait if 1<=", 1, 11}, {"cold who+ends+ruled+gap;", 0, NONE}, {"haste who+ends+ruled+into;", 0, NONE},
             {"stops who+ends+ruled+turns+cut+waits+spread+stop+length;", 0, NONE},
             {"long who+ends+ruled+turns+cut+waits+spread+stop+length;", 0, NONE},
             {"speak 0 for 0;", 2, 12}, {"speak 0 for 100;", 2, 12}, {"speak 4 for 1;", 2, 6}, {"speak who for 1;", 1, 6},
@@ -977,6 +1005,7 @@ public final class PromiseTest {
         due("24: to itself", x.cold(1, 1, false), NONE);
         due("24: no END", x.cold(2, 1, false), NONE);
         due("24: no END", x.cold(0, -1, false), NONE);
+        coldEdges();
         LongLine y = silent(2);
         tell(y, "wait 999;cold 9999*2;");
         y.by(1);
@@ -989,6 +1018,36 @@ public final class PromiseTest {
         y.speak(0, 1);
         y.go(3);
         due("24: 9999 at most", y.cold(0, 1, false), 9999);
+    }
+
+    /** END 1 says something in 1, END 0 in 4 (HEARD in 5), and END 1 again from a TENTH on. */
+    private static int coldIfAgainIn(int tenth) {
+        LongLine x = silent(2);
+        x.speak(1, 1);
+        for (int t = 1; t <= 12; t++) {
+            if (t == 4) {
+                x.speak(0, 1);
+            }
+            if (t == tenth) {
+                x.speak(1, 9);
+            }
+            x.go(1);
+        }
+        return x.cold(0, 1, false);
+    }
+
+    private static void coldEdges() {
+        due("24: its own BEGAN in its ENDED", coldIfAgainIn(3), 0);
+        due("24: its own BEGAN in the TENTH in which it HEARS", coldIfAgainIn(5), 0);
+        due("24: its own BEGAN later", coldIfAgainIn(6), 3);
+        LongLine x = silent(2);
+        x.speak(0, 1);
+        x.speak(1, 1);
+        x.go(3);
+        due("24: HEARD in its ENDED", x.cold(0, 1, false), 0);
+        tell(x, "cold 7;");
+        x.by(1);
+        due("24: a gap of 0", x.cold(0, 1, false), 7);
     }
 
     private static void haste() {
@@ -1019,6 +1078,14 @@ public final class PromiseTest {
         due("25: to itself", x.haste(0, 0, true), NONE);
         due("25: no END", x.haste(0, 2, true), NONE);
         due("25: no END", x.haste(-1, 0, true), NONE);
+        LongLine z = silent(2);
+        z.speak(0, 2);
+        z.go(1);
+        z.speak(1, 2);
+        z.go(5);
+        // END 1 HEARS it begin in 2, in which it begins itself; END 0 HEARS END 1 in its own ENDED
+        due("25: into 0", z.haste(0, 1, false), 1);
+        due("25: not in its ENDED", z.haste(1, 0, false), 0);
         LongLine y = silent(2);
         tell(y, "wait 999;haste 0-1;");
         y.by(1);
@@ -1183,6 +1250,13 @@ public final class PromiseTest {
         due("32: none such", x.apart(2, 1, 6, 3, count), NONE);
         due("32: none such", x.apart(2, 1, 6, 3, -2), NONE);
         due("32: some of them", count > 300 && count < 625, true);
+        int[][] unlike = {{2, 1, 6, 3}, {9, 1, 6, 3}, {9, 30, 6, 3}, {9, 30, 40, 3}, {9, 30, 40, 0}, {9, 30, 40, 3}};
+        for (int[] u : unlike) {
+            due("32: other numbers", x.apart(u[0], u[1], u[2], u[3], NONE),
+                new LongLine().apart(u[0], u[1], u[2], u[3], NONE));
+            x.comes(1, 2, u[0], u[1], u[2], u[3]);
+            due("32: the same numbers", x.apart(u[0], u[1], u[2], u[3], 0), new LongLine().apart(u[0], u[1], u[2], u[3], 0));
+        }
         int[][] others = {{-1, 0, 1, 0}, {61, 0, 1, 0}, {0, -1, 1, 0}, {0, 61, 1, 0}, {0, 0, 0, 0}, {0, 0, 100, 0},
             {0, 0, 1, -1}, {0, 0, 1, 100}};
         for (int[] o : others) {
@@ -1341,6 +1415,15 @@ public final class PromiseTest {
         due("40: laws don't matter", tell(x, "stops 99;long 1;wait 5;"), 0);
         x.by(0);
         due("40: laws don't matter", x.way(0, 1, 1), 3);
+        LongLine y = new LongLine();
+        y.tellEnd(0, 0, 3, 9);
+        y.tellEnd(0, 0, 0, 3);
+        y.tellEnd(0, 0, 0, 2);
+        due("40: PRESSED just long enough", y.way(0, 1, 2), 1);
+        due("40: not long enough", y.way(0, 2, 2), 0);
+        y.delay(1, 0, 5);
+        due("40: all was said ahead of it", y.way(0, 1, 2), 0);
+        due("40: in the last TENTH", y.way(0, 1, 1), 1);
         due("40: alike", x.way(1, 1, 0), NONE);
         due("40: no END", x.way(4, 1, 0), NONE);
         due("40: no END", x.way(0, -1, 0), NONE);
@@ -1391,6 +1474,20 @@ public final class PromiseTest {
         due("42: STEPS as well", x.about(1), 0);
         due("42: it stays", x.back(), 7);
         due("42: no STEP", x.about(6), 1);
+        x.undo();
+        x.rule(2);
+        x.go(50);
+        x.image();
+        x.undo();
+        x.undo();
+        for (int i = 0; i < 35; i++) {
+            x.go(2);
+        }
+        due("42: back to it", x.back(), 50);
+        due("42: a STEP", x.undo(), 1);
+        due("42: RULE", x.about(2), 2);
+        due("42: a STEP", x.undo(), 0);
+        dueRow("42: ahead of all", new int[] {x.about(1), x.about(2)}, 0, 0);
     }
 
     private static void back() {
