@@ -982,7 +982,7 @@ public final class LongLine {
             int hears = ends[e].hears;
             boolean alone = (hears & hears - 1) == 0;
             int[] row = alone && !ends[e].speaking ? clear : lost;
-            for (int from = 0; from < count; from++) {
+            for (int from = 0; hears != 0 && from < count; from++) {
                 if ((hears >> from & 1) != 0) {
                     row[from * MOST_ENDS + e]++;
                 }
@@ -1983,24 +1983,17 @@ public final class LongLine {
             }
         }
 
-        /** When the one that is SPEAKING has been PRESSED so many TENTHS on end. */
+        /**
+         * When the one that is SPEAKING has been PRESSED so many TENTHS on end. The first TURN
+         * that it HEARS decides: with the same numbers for both, a TURN that ends sooner than so
+         * many TENTHS is SAID, and then this one is SAID sooner, too.
+         */
         private int yieldsIn(int e) {
             int other = 1 - e;
-            int earliest = began[e][count[e] - 1] + 1;
-            int pressedFrom = NONE;
-            int heardTo = NONE;
-            for (int i = nearest[e]; i < count[other] && stops > 0; i++) {
-                int from = Math.max(earliest, began[other][i] + lags[other]);
-                // TURNS that follow at once press on without a break
-                if (pressedFrom == NONE || from > heardTo) {
-                    pressedFrom = from;
-                }
-                heardTo = ended[other][i] == NONE ? 2 * TENTHS : ended[other][i] + lags[other];
-                if (heardTo - pressedFrom >= stops) {
-                    return pressedFrom + stops - 1;
-                }
+            if (stops == 0 || nearest[e] >= count[other]) {
+                return TENTHS;
             }
-            return TENTHS;
+            return began[other][nearest[e]] + lags[other] + stops - 1;
         }
 
         /** When the one that is SILENT since a TENTH has HEARD nothing for longer than its wait. */

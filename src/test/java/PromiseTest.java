@@ -506,6 +506,9 @@ public final class PromiseTest {
             b.append("+1");
         }
         b.append(" ;");
+        LongLine w = new LongLine();
+        tell(w, b.substring(0, 295) + "    <");
+        due("12: 300 bytes, the last of which might go on", w.fault(1), 299);
         LongLine y = new LongLine();
         putOnTape(y, b.append("  ").substring(0, 300));
         due("12: of 300 bytes", y.text(), 0);
@@ -933,6 +936,8 @@ public final class PromiseTest {
         due("22: the later one", x.whose(0, 20, 0, 8, 1, true), 3);
         due("22: the earlier one", x.whose(0, 20, 0, 8, 0, false), 1);
         due("22: the earlier one", x.whose(0, 20, 0, 8, 0, true), 3);
+        due("22: from 5 on", x.whose(0, 20, 5, 8, 1, false), 1);
+        due("22: from 5 on", x.whose(0, 20, 5, 8, 1, true), 4);
         due("22: one way alone", x.whose(0, 4, 0, 0, 0, false), 1);
         due("22: one way alone", x.whose(0, 3, 0, 0, 0, false), 0);
         due("22: surely not", x.whose(0, 3, 0, 0, 0, true), 1);
@@ -1045,6 +1050,14 @@ public final class PromiseTest {
         x.speak(1, 1);
         x.go(3);
         due("24: HEARD in its ENDED", x.cold(0, 1, false), 0);
+        // END 1 speaks in 1 .. 3, 4 .. 6, .. and HEARS END 0 in 6
+        LongLine y = new LongLine();
+        y.tellEnd(99, 0, 0, 1);
+        y.tellEnd(0, 0, 0, 3);
+        y.go(4);
+        y.speak(0, 1);
+        y.go(4);
+        due("24: ENDED and BEGAN in one TENTH", y.cold(0, 1, false), 0);
         tell(x, "cold 7;");
         x.by(1);
         due("24: a gap of 0", x.cold(0, 1, false), 7);
@@ -1150,6 +1163,11 @@ public final class PromiseTest {
             most = Math.max(most, x.rules(r, 3000, false));
         }
         due("27: most CLEAR", x.rules(best, 3000, false), most);
+        LongLine w = new LongLine();
+        w.tellEnd(90, 0, 0, 3);
+        w.tellEnd(90, 0, 0, 3);
+        w.speak(0, 3);
+        due("27: over", w.bestRule(80), 3);
         LongLine y = new LongLine();
         y.tellEnd(2, 0, 0, 2);
         y.tellEnd(2, 0, 0, 2);
@@ -1288,6 +1306,8 @@ public final class PromiseTest {
         due("34: just by 24", x.wide(23, 60), 24);
         // s is 2: (2 + 2) * 9 / 2 is 18; 3: 5 * 16 / 6 is 13.3; 4: 6 * 25 / 12 is 12.5; 5: 7 * 36 / 20 is 12.6
         due("34: with DELAYS", x.wide(1, 1), 4);
+        // 2 and 3: 8 * 9 / 3 and 9 * 16 / 6
+        due("34: of like ones the lowest", x.wide(0, 6), 2);
         due("34: others", x.wide(-1, 0), NONE);
         due("34: others", x.wide(61, 0), NONE);
         due("34: others", x.wide(0, -1), NONE);
@@ -1380,7 +1400,8 @@ public final class PromiseTest {
         due("39: least of all", x.span(false), 11);
         due("39: most of all", x.span(true), 15);
         x.heard(10, 30, 9, 9);
-        due("39: one alone", x.span(false), x.span(true));
+        due("39: one alone", x.span(false), 11);
+        due("39: one alone", x.span(true), 11);
         x.heard(10, 30, 0, 8);
         due("39: none", x.span(false), NONE);
         due("39: none", x.span(true), NONE);
@@ -1424,6 +1445,10 @@ public final class PromiseTest {
         y.delay(1, 0, 5);
         due("40: all was said ahead of it", y.way(0, 1, 2), 0);
         due("40: in the last TENTH", y.way(0, 1, 1), 1);
+        LongLine z = new LongLine();
+        z.tellEnd(0, 0, 0, 99);
+        z.tellEnd(0, 0, 99, 99);
+        due("40: in the very last TENTH", z.way(0, 1, 0), 2);
         due("40: alike", x.way(1, 1, 0), NONE);
         due("40: no END", x.way(4, 1, 0), NONE);
         due("40: no END", x.way(0, -1, 0), NONE);
@@ -1513,6 +1538,7 @@ public final class PromiseTest {
         x.agree(NONE, 0, 0);
         x.agree(9, 9, 0);
         x.heard(NONE, 0, 0, 0);
+        x.heard(0, 20, 0, 0);
         x.undo();
         x.undo();
         x.undo();
@@ -1528,7 +1554,9 @@ public final class PromiseTest {
             2, 1, 0, 4, 2, 1);
         due("43: PRICE", x.pence(1), 7);
         due("43: AGREED", x.least(13), 3);
+        due("43: AGREED", x.least(14), NONE);
         due("43: HEARD", x.span(true), 47);
+        due("43: HEARD", x.span(false), 46);
         due("43: the tape stays", x.about(9), 5);
         due("43: TEXTS told behind it are gone", x.played(1), -2);
         due("43: another one is told", x.text(), 1);
