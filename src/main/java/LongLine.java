@@ -1508,7 +1508,8 @@ public final class LongLine {
         private void readAct(int word) {
             int b = 0;
             int c = 0;
-            int a = expectNumber(word == GO ? 1 : 0, word == GO ? MOST_GO : MOST_RULE);
+            int most = word == GO ? MOST_GO : word == RULE ? MOST_RULE : MOST_ENDS - 1;
+            int a = expectNumber(word == GO ? 1 : 0, most);
             if (word == SPEAK) {
                 expectWord(FOR);
                 b = expectNumber(1, MOST_LONG);
