@@ -952,7 +952,7 @@ public final class EdgeAnswerTest {
         Edge.dueRow("YES 0", new int[] {x.said(0, 0), x.said(0, 1), x.said(0, 2)}, 0, 4, 0);
         Edge.dueRow("AGREED", new int[] {x.least(8), x.least(9)}, 1, NONE);
         Edge.dueRow("HEARD", new int[] {x.span(false), x.span(true)}, 31, 35);
-        x.agree(2, 8, 1);
+        x.agree(4, 8, 0);
         x.agree(9, 20, 2);
         x.image();
         x.agree(NONE, 0, 0);
@@ -960,7 +960,7 @@ public final class EdgeAnswerTest {
         x.agree(1, 8, 0);
         x.agree(1, 20, 0);
         x.back();
-        Edge.dueRow("WORDS and NEEDS", new int[] {x.least(8), x.least(9), x.least(20)}, 1, 3, 7);
+        Edge.dueRow("WORDS and NEEDS", new int[] {x.least(8), x.least(9), x.least(20)}, 1, 3, 6);
     }
 
     private static void about() {

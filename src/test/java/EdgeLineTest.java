@@ -877,6 +877,13 @@ public final class EdgeLineTest {
         z.undo();
         Edge.due("the same number", z.speak(1, 7), 0);
         Edge.dueRow("another TURN", Edge.turnRow(z, 0), 1, 1, 7, NONE, 0);
+        LongLine byItself = new LongLine();
+        byItself.tellEnd(0, 0, 0, 1);
+        byItself.go(5);
+        Edge.dueRow("began and ended in one STEP", Edge.turnRow(byItself, 0), 0, 1, 1, 2, 1);
+        byItself.undo();
+        byItself.speak(0, 7);
+        Edge.dueRow("another TURN in its place", Edge.turnRow(byItself, 0), 0, 1, 7, NONE, 0);
         coldOfWhatIsGone();
     }
 
