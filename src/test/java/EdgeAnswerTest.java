@@ -15,6 +15,60 @@ public final class EdgeAnswerTest {
         x.by(1);
     }
 
+    private static void busy(LongLine x) {
+        Edge.tell(x, "wait waits+turns;cold gap*2;haste into*3;");
+        x.tellEnd(2, 3, 2, 6);
+        x.tellEnd(3, 2, 1, 4);
+        x.tellEnd(5, 0, 0, 9);
+        x.delay(0, 1, 3);
+        x.delay(2, 0, 1);
+        x.go(60);
+        x.by(0);
+        x.go(5);
+        x.yes(0);
+        x.speak(1, 20);
+        x.go(4);
+        x.price(3, 2, 1);
+        x.agree(2, 5, 0);
+        x.heard(5, 60, 3, 9);
+        Edge.putOnTape(x, "go 5;");
+    }
+
+    private static void changesNothing() {
+        Edge.says("All that follows changes nothing.");
+        LongLine x = new LongLine();
+        LongLine twin = new LongLine();
+        busy(x);
+        busy(twin);
+        for (int n : new int[] {Edge.LOW, -2, -1, 0, 1, 2, 3, 24, 99, 3001, Edge.HIGH}) {
+            for (boolean flag : new boolean[] {false, true}) {
+                x.whose(n, n, n, n, n, flag);
+                x.whose(1, 69, 0, n, 0, flag);
+                x.cold(0, n, flag);
+                x.haste(n, 1, flag);
+                x.rules(n, 77, flag);
+                x.rules(3, n, flag);
+                x.drawn(n, n, n, n, flag);
+                x.worth(n, n, n, n, flag);
+                x.span(flag);
+            }
+            x.first(0, n, 1);
+            x.bestRule(n);
+            x.pence(n);
+            x.forPence(n, 1);
+            x.comes(n, 5, 1, 2, 5, 3);
+            x.apart(1, 2, 5, 3, n);
+            x.wide(n, n);
+            x.least(n);
+            x.way(0, 2, n);
+            x.said(n, 11);
+            x.misjoined();
+            x.refused(n);
+        }
+        Edge.dueRow("REFUSED", Edge.refusals(x), Edge.refusals(twin));
+        Edge.alike("all", x, twin);
+    }
+
     // ---- YESES ----
 
     private static void taken() {
@@ -242,6 +296,13 @@ public final class EdgeAnswerTest {
         Edge.due("the first that comes alone", two.cold(0, 1, false), 100);
         two.delay(0, 1, 60);
         Edge.due("by the DELAY now, none is HEARD yet", two.cold(0, 1, false), 0);
+        Edge.says("cold of all gaps together");
+        two.delay(0, 1, 0);
+        two.speak(1, 1);
+        two.go(5);
+        two.speak(0, 1);
+        two.go(2);
+        Edge.due("gaps of 0 and 5", two.cold(0, 1, false), 100 + 105);
         Edge.says("of each TURN of that other one that is SAID");
         LongLine x = Edge.stopping(0, 1);
         x.speak(1, 5);
@@ -652,7 +713,7 @@ public final class EdgeAnswerTest {
     }
 
     private static void least() {
-        Edge.says("LEAST (bits). NONE: none, and for others.");
+        Edge.says("LEAST to agree on to save so much (0 .. 999)");
         Edge.takesJust(0, 792, x -> agreed(x, 8), (x, n) -> x.least(n), NONE, Edge.ASKED);
         Edge.asks("the most that can be asked", x -> agreed(x, 8), x -> x.least(999), NONE);
         Edge.asks("all", x -> agreed(x, 8), x -> x.least(792), 255);
@@ -799,6 +860,22 @@ public final class EdgeAnswerTest {
         way(1, 97, new int[] {1, 99}, new int[] {0, 99}, 0, 0);
         way(1, 98, new int[] {1, 99}, new int[] {0, 99}, 0, 0);
         way(0, 99, new int[] {1, 99}, new int[] {0, 99}, 0, 0);
+        Edge.says("if of two unlike ENDS the one begins, and the other one so many TENTHS later (0 .. 99; both as they are told, "
+            + "without laws, fresh, STOPS and LENGTH as told)");
+        LongLine live = new LongLine();
+        Edge.tell(live, "wait 0;stops 9;long 2;");
+        live.by(0);
+        live.tellEnd(50, 0, 3, 9);
+        live.tellEnd(50, 0, 4, 9);
+        live.tellEnd(50, 0, 0, 99);
+        live.speak(0, 90);
+        live.speak(2, 90);
+        live.go(3);
+        Edge.dueRow("it goes on by the laws, and is PRESSED", new int[] {live.of(0, 4), live.of(0, 7)}, 1, 2);
+        Edge.due("the one", live.way(0, 1, 0), 1);
+        Edge.due("the other one", live.way(1, 0, 0), 2);
+        Edge.due("as all is said", live.way(0, 1, 6), 1);
+        Edge.due("all was said ahead of it", live.way(0, 1, 7), 0);
         Edge.says("WAY: who YIELDS (bits). NONE for others.");
         Edge.takesJust(0, 99, EdgeAnswerTest::twoEnds, (x, n) -> x.way(0, 1, n), NONE, Edge.ASKED);
         others((x, pair) -> x.way(pair[0], pair[1], 3));
@@ -809,6 +886,45 @@ public final class EdgeAnswerTest {
     private static void refused() {
         Edge.says("REFUSED: how many by a reason (0 .. 2). NONE for others.");
         Edge.takesJust(0, 2, EdgeAnswerTest::twoEnds, (x, n) -> x.refused(n), NONE, Edge.ASKED);
+        Edge.says("how many acts (those that change something) could not be: by 0 a NUMBER that isn't one of those told, or what isn't there "
+            + "(ENDS, TEXTS), 1 one too many (ENDS, TURNS, YESES, TEXTS, AGREED, HEARD, bytes of the tape, TENTHS beyond 9000), "
+            + "2 as things stand (all else)");
+        LongLine all = new LongLine();
+        all.delay(0, 1, 1);
+        all.played(0);
+        all.by(0);
+        all.price(100, 0, 0);
+        Edge.dueRow("numbers, and what isn't there", Edge.refusals(all), 4, 0, 0);
+        Edge.ends(all, 5);
+        for (int i = 0; i < 91; i++) {
+            all.speak(0, 1);
+            all.hush(0);
+        }
+        // the 91st TURN is one too many, and then END 0 is SILENT
+        Edge.dueRow("ENDS, TURNS", Edge.refusals(all), 4, 2, 1);
+        for (int i = 0; i < 41; i++) {
+            all.yes(0);
+        }
+        for (int i = 0; i < 9; i++) {
+            all.agree(1, 1, 0);
+            all.heard(1, 1, 0, 0);
+        }
+        for (int i = 0; i < 16; i++) {
+            all.feed(0x20202020, 0x20202020, 0x20202020, 0x20202020, 0x20202020);
+        }
+        for (int i = 0; i < 5; i++) {
+            all.text();
+        }
+        for (int i = 0; i < 31; i++) {
+            all.go(300);
+        }
+        Edge.dueRow("YESES, AGREED, HEARD, bytes, TEXTS, TENTHS", Edge.refusals(all), 4, 8, 1);
+        all.rule(0);
+        all.delay(0, 1, 0);
+        for (int i = 0; i < 31; i++) {
+            all.undo();
+        }
+        Edge.dueRow("as things stand", Edge.refusals(all), 4, 8, 4);
         Edge.says("Texts with a FAULT and what was PLAYED don't count (but what couldn't be in it). undo() brings none back.");
         LongLine x = new LongLine();
         twoEnds(x);
@@ -969,6 +1085,7 @@ public final class EdgeAnswerTest {
     }
 
     public static void main(String[] args) {
+        changesNothing();
         taken();
         misjoined();
         whose();

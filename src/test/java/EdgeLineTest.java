@@ -1025,7 +1025,17 @@ public final class EdgeLineTest {
         for (int what : new int[] {-1, 5, Edge.LOW, Edge.HIGH}) {
             Edge.asks("turn(2, " + what + ")", x -> unspokenOf(x, 3), x -> x.turn(2, what), -2);
         }
-        Edge.says("KIND (0 going on, 1 SAID, 2 YIELDED, 3 HUSHED)");
+        Edge.says("END, BEGAN (the TENTH; by hand the next one), LONG, ENDED (the TENTH in which it no longer spoke; NONE: not yet), "
+            + "KIND (0 going on, 1 SAID, 2 YIELDED, 3 HUSHED)");
+        LongLine two = new LongLine();
+        two.tellEnd(3, 0, 0, 2);
+        two.tellEnd(99, 0, 0, 2);
+        two.go(4);
+        two.speak(1, 2);
+        Edge.dueRow("by itself in TENTH 4", Edge.turnRow(two, 0), 0, 4, 2, NONE, 0);
+        Edge.dueRow("by hand in TENTH 5", Edge.turnRow(two, 1), 1, 5, 2, NONE, 0);
+        two.go(2);
+        Edge.dueRow("ENDED", new int[] {two.turn(0, 3), two.turn(1, 3)}, 6, NONE);
         LongLine x = Edge.stopping(0, 0, 1);
         x.speak(0, 1);
         x.speak(1, 9);
